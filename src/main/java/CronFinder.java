@@ -340,7 +340,7 @@ public final class CronFinder {
             int size = allowed.length;
             int count = Math.floorMod(to - from, size) + 1;
             int start = from - first;
-            for (int k = 0; k < count; k += step) {
+            for (int k = 0; k < count; k += Math.max(step, 1)) {
                 allowed[Math.floorMod(start + k, size)] = true;
             }
         }
@@ -677,12 +677,15 @@ public final class CronFinder {
         }
 
         private boolean readItems(int field) {
-            do {
+            for (int items = 0; items < length; items++) {
                 if (!readItem(field)) {
                     return false;
                 }
-            } while (at < length && accept(','));
-            return true;
+                if (!accept(',')) {
+                    return true;
+                }
+            }
+            return false;
         }
 
         private boolean readItem(int field) {
@@ -695,10 +698,15 @@ public final class CronFinder {
                 }
                 from = value;
                 if (accept('-')) {
-                    if (!readRangeEnd(field, from)) {
+                    int start = at;
+                    if (!readValue(field)) {
                         return false;
                     }
                     to = value;
+                    if (field == YEAR && from > to) {
+                        at = start;
+                        return false;
+                    }
                 } else if (!sees('/')) {
                     to = from;
                 }
@@ -711,18 +719,6 @@ public final class CronFinder {
                 step = value;
             }
             row.allow(from, to, step);
-            return true;
-        }
-
-        private boolean readRangeEnd(int field, int from) {
-            int start = at;
-            if (!readValue(field)) {
-                return false;
-            }
-            if (field == YEAR && from > value) {
-                at = start;
-                return false;
-            }
             return true;
         }
 

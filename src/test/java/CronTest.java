@@ -9,7 +9,9 @@ public final class CronTest {
         brokenDays();
         brokenWeekdays();
         keepsTheCronBefore();
+        forgetsOlderCrons();
         leavesTheTapeEmpty();
+        readsNothingBehindTheEnd();
         Check.finish();
     }
 
@@ -268,6 +270,20 @@ public final class CronTest {
         Check.due("only one of it", "none", () -> Check.when(finder.later(0, 2)));
     }
 
+    private static void forgetsOlderCrons() {
+        CronFinder finder = Check.finder("0 0 0 ? 5 FRI#2 2000");
+        Check.due("second", "ok", () -> Check.tell(finder, "1 1 1 2-3 2 ? 2002"));
+        Check.due("broken", "throws." + Check.UOE, () -> Check.tell(finder, "* * * L * ? *,"));
+        Check.due("third", "ok", () -> Check.tell(finder, "2 2 2 7 7 ? 2010"));
+        Check.due("its first", "2010-07-07 02:02:02", () -> Check.when(finder.next(0)));
+        Check.due("its last", "2010-07-07 02:02:02", () -> Check.when(finder.last(Check.LAST_TIME)));
+        Check.due("it has just one", -1L, () -> finder.later(0, 2));
+        Check.due("fourth", "ok", () -> Check.tell(finder, "3 3 3 ? 8 2 2011"));
+        Check.due("its third", "2011-08-15 03:03:03", () -> Check.when(finder.later(0, 3)));
+        Check.due("it has five", "2011-08-29 03:03:03", () -> Check.when(finder.last(Check.LAST_TIME)));
+        Check.due("no more than five", -1L, () -> finder.later(0, 6));
+    }
+
     private static void leavesTheTapeEmpty() {
         CronFinder finder = new CronFinder();
         Check.due("good", "ok", () -> Check.tell(finder, "* * * * * ?"));
@@ -280,5 +296,30 @@ public final class CronTest {
             finder.feed(0, 0, 0, 0, 0);
             return finder.place();
         });
+    }
+
+    /** Bytes that were cut off, or were read before, still lie behind the end. */
+    private static void readsNothingBehindTheEnd() {
+        cutOff("0 0 0 ? * MON", 12, 10);
+        cutOff("0 0 0 * JAN ?", 10, 8);
+        cutOff("0 0 0 ? * 6#1", 12, 12);
+        cutOff("0 0 0 * * ? 2000", 15, 12);
+        cutOff("0 0 0 * * ?", 10, 10);
+        cutOff(" ".repeat(380), 0, 0);
+        CronFinder finder = new CronFinder();
+        Check.due("a name at the tape's end", "throws." + Check.UOE,
+                () -> Check.tell(finder, "0 0 0 ? *" + " ".repeat(389) + "MO"));
+        Check.due("its place", 398, finder::place);
+        CronFinder other = Check.finder("0 0 0 * * ? 1999");
+        Check.due("a shorter text", "ok", () -> Check.tell(other, "0 0 0 * * ?"));
+        Check.due("every year", "2299-12-31 00:00:00", () -> Check.when(other.last(Check.LAST_TIME)));
+    }
+
+    private static void cutOff(String text, int length, int place) {
+        CronFinder finder = new CronFinder();
+        Check.type(finder, text);
+        finder.end(length);
+        Check.due("cron '" + text + "' cut off", "throws." + Check.UOE, () -> Check.tell(finder, ""));
+        Check.due("place of '" + text + "' cut off", place, finder::place);
     }
 }
