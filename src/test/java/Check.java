@@ -66,13 +66,30 @@ final class Check {
         return bytes;
     }
 
-    /** Answers "ok", or the exception's name. */
+    /** Brings a text to the tape and reads it: answers "ok", or the exception's name. */
     static String tell(CronFinder finder, String text) {
         type(finder, text);
-        return answerOf(() -> {
-            finder.cron();
-            return "ok";
-        });
+        return answerOf(() -> read(finder));
+    }
+
+    /** Reads what is on the tape. */
+    static String read(CronFinder finder) {
+        finder.cron();
+        return "ok";
+    }
+
+    /** Due is that a new object takes the text. */
+    static void good(String text) {
+        CronFinder finder = new CronFinder();
+        due("cron '" + text + "'", "ok", () -> tell(finder, text));
+        due("place of '" + text + "'", -1, finder::place);
+    }
+
+    /** Due is that a new object finds the text broken at the place. */
+    static void broken(String text, int place) {
+        CronFinder finder = new CronFinder();
+        due("cron '" + text + "'", "throws." + UOE, () -> tell(finder, text));
+        due("place of '" + text + "'", place, finder::place);
     }
 
     static CronFinder finder(String text) {

@@ -15,157 +15,145 @@ public final class CronTest {
         Check.finish();
     }
 
-    private static void good(String text) {
-        CronFinder finder = new CronFinder();
-        Check.due("cron '" + text + "'", "ok", () -> Check.tell(finder, text));
-        Check.due("place of '" + text + "'", -1, finder::place);
-    }
-
-    private static void broken(String text, int place) {
-        CronFinder finder = new CronFinder();
-        Check.due("cron '" + text + "'", "throws." + Check.UOE, () -> Check.tell(finder, text));
-        Check.due("place of '" + text + "'", place, finder::place);
-    }
-
     private static void brokenDay(String day, int place) {
-        broken("0 0 0 " + day + " * ?", 6 + place);
+        Check.broken("0 0 0 " + day + " * ?", 6 + place);
     }
 
     private static void brokenWeekday(String weekday, int place) {
-        broken("0 0 0 ? * " + weekday, 10 + place);
+        Check.broken("0 0 0 ? * " + weekday, 10 + place);
     }
 
     private static void goodTexts() {
-        good("* * * * * ?");
-        good("* * * ? * *");
-        good("*   *  * *     * ? *");
-        good("* * * * * ?  1970");
-        good("59,0-59/99,*/1,7/7 0 23 31 DEC ? 2299");
-        good("58-2/3 59-0 23-0/2 31-1/99 DEC-1/5 ? 1970-2299/99");
-        good("0 0 0 1 JAN,FEB,MAR,APR,MAY,JUN,JUL,AUG,SEP,OCT,NOV,DEC ? *,1970/5,2000-2000");
-        good("0 0 0 ? * SUN,MON,TUE,WED,THU,FRI,SAT");
-        good("0 0 0 ? * SAT-1,SUN/2,*/3");
-        good("0 0 0 L * ?");
-        good("0 0 0 L-1 * ?");
-        good("0 0 0 L-30 * ? 2000");
-        good("0 0 0 LW * ?");
-        good("0 0 0 1W * ?");
-        good("0 0 0 31W 2 ?");
-        good("0 0 0 ? * L");
-        good("0 0 0 ? * 1L");
-        good("0 0 0 ? * SATL 2000");
-        good("0 0 0 ? * 7#5");
-        good("0 0 0 ? * MON#1 2000");
-        good("*" + " ".repeat(385) + "* * * * ? 2000");
+        Check.good("* * * * * ?");
+        Check.good("* * * ? * *");
+        Check.good("*   *  * *     * ? *");
+        Check.good("* * * * * ?  1970");
+        Check.good("59,0-59/99,*/1,7/7 0 23 31 DEC ? 2299");
+        Check.good("58-2/3 59-0 23-0/2 31-1/99 DEC-1/5 ? 1970-2299/99");
+        Check.good("0 0 0 1 JAN,FEB,MAR,APR,MAY,JUN,JUL,AUG,SEP,OCT,NOV,DEC ? *,1970/5,2000-2000");
+        Check.good("0 0 0 ? * SUN,MON,TUE,WED,THU,FRI,SAT");
+        Check.good("0 0 0 ? * SAT-1,SUN/2,*/3");
+        Check.good("0 0 0 L * ?");
+        Check.good("0 0 0 L-1 * ?");
+        Check.good("0 0 0 L-30 * ? 2000");
+        Check.good("0 0 0 LW * ?");
+        Check.good("0 0 0 1W * ?");
+        Check.good("0 0 0 31W 2 ?");
+        Check.good("0 0 0 ? * L");
+        Check.good("0 0 0 ? * 1L");
+        Check.good("0 0 0 ? * SATL 2000");
+        Check.good("0 0 0 ? * 7#5");
+        Check.good("0 0 0 ? * MON#1 2000");
+        Check.good("*" + " ".repeat(385) + "* * * * ? 2000");
     }
 
     private static void brokenShape() {
-        broken("", 0);
-        broken(" ", 0);
-        broken("*", 1);
-        broken("* ", 2);
-        broken("* * * * *", 9);
-        broken("* * * * * ", 10);
-        broken("* * * * * ? ", 12);
-        broken("* * * * * ?    ", 15);
-        broken("* * * * * ? * ", 13);
-        broken("* * * * * ? * *", 13);
-        broken(" * * * * * ?", 0);
-        broken("*\t* * * * ?", 1);
-        broken("* * * * * ?\n", 11);
-        broken("* * * * * ?\u0000", 11);
-        broken("* * * * * ?x", 11);
-        broken("* * * * * ? x", 12);
-        broken("* * * * * ? *x", 13);
-        broken("* * * * * ? ?", 12);
-        broken("* * * * * ? L", 12);
-        broken("? * * * * ?", 0);
-        broken("* ? * * * ?", 2);
-        broken("* * L * * ?", 4);
-        broken("* * * * ? ?", 8);
-        broken("\u00b1 * * * * ?", 0);
-        broken("1\u00b1 * * * * ?", 1);
+        Check.broken("", 0);
+        Check.broken(" ", 0);
+        Check.broken("*", 1);
+        Check.broken("* ", 2);
+        Check.broken("* * * * *", 9);
+        Check.broken("* * * * * ", 10);
+        Check.broken("* * * * * ? ", 12);
+        Check.broken("* * * * * ?    ", 15);
+        Check.broken("* * * * * ? * ", 13);
+        Check.broken("* * * * * ? * *", 13);
+        Check.broken(" * * * * * ?", 0);
+        Check.broken("*\t* * * * ?", 1);
+        Check.broken("* * * * * ?\n", 11);
+        Check.broken("* * * * * ?\u0000", 11);
+        Check.broken("* * * * * ?x", 11);
+        Check.broken("* * * * * ? x", 12);
+        Check.broken("* * * * * ? *x", 13);
+        Check.broken("* * * * * ? ?", 12);
+        Check.broken("* * * * * ? L", 12);
+        Check.broken("? * * * * ?", 0);
+        Check.broken("* ? * * * ?", 2);
+        Check.broken("* * L * * ?", 4);
+        Check.broken("* * * * ? ?", 8);
+        Check.broken("\u00b1 * * * * ?", 0);
+        Check.broken("1\u00b1 * * * * ?", 1);
     }
 
     private static void brokenNumbers() {
-        broken("60 0 0 * * ?", 0);
-        broken("0 60 0 * * ?", 2);
-        broken("0 0 24 * * ?", 4);
-        broken("0 0 0 32 * ?", 6);
-        broken("0 0 0 0 * ?", 6);
-        broken("0 0 0 * 13 ?", 8);
-        broken("0 0 0 * 0 ?", 8);
-        broken("0 0 0 ? * 0", 10);
-        broken("0 0 0 ? * 8", 10);
-        broken("* * * * * ? 1969", 12);
-        broken("* * * * * ? 2300", 12);
-        broken("* * * * * ? 0", 12);
-        broken("* * * * * ? 20", 12);
-        broken("* * * * * ? 20000", 12);
-        broken("00 0 0 * * ?", 1);
-        broken("05 0 0 * * ?", 1);
-        broken("0-05 0 0 * * ?", 3);
-        broken("0 0 0 01 * ?", 6);
-        broken("0 0 0 * 01 ?", 8);
-        broken("*/05 0 0 * * ?", 2);
-        broken("4294967296 0 0 * * ?", 0);
-        broken("42949672961 0 0 * * ?", 0);
-        broken("18446744073709551617 0 0 * * ?", 0);
-        broken("100x 0 0 * * ?", 0);
-        broken("1-60 0 0 * * ?", 2);
-        broken("-1 0 0 * * ?", 0);
-        broken("+1 0 0 * * ?", 0);
-        broken("1,61 0 0 * * ?", 2);
-        broken("*/0 * * * * ?", 2);
-        broken("*/100 * * * * ?", 2);
-        broken("1-2/4294967297 * * * * ?", 4);
-        broken("* * * * * ? 2000-1999", 17);
-        broken("* * * * * ? 2000-1999/0", 17);
-        broken("* * * * * ? 2000-1999x", 17);
-        broken("* * * * * ? 2001,2299-2298", 22);
+        Check.broken("60 0 0 * * ?", 0);
+        Check.broken("0 60 0 * * ?", 2);
+        Check.broken("0 0 24 * * ?", 4);
+        Check.broken("0 0 0 32 * ?", 6);
+        Check.broken("0 0 0 0 * ?", 6);
+        Check.broken("0 0 0 * 13 ?", 8);
+        Check.broken("0 0 0 * 0 ?", 8);
+        Check.broken("0 0 0 ? * 0", 10);
+        Check.broken("0 0 0 ? * 8", 10);
+        Check.broken("* * * * * ? 1969", 12);
+        Check.broken("* * * * * ? 2300", 12);
+        Check.broken("* * * * * ? 0", 12);
+        Check.broken("* * * * * ? 20", 12);
+        Check.broken("* * * * * ? 20000", 12);
+        Check.broken("00 0 0 * * ?", 1);
+        Check.broken("05 0 0 * * ?", 1);
+        Check.broken("0-05 0 0 * * ?", 3);
+        Check.broken("0 0 0 01 * ?", 6);
+        Check.broken("0 0 0 * 01 ?", 8);
+        Check.broken("*/05 0 0 * * ?", 2);
+        Check.broken("4294967296 0 0 * * ?", 0);
+        Check.broken("42949672961 0 0 * * ?", 0);
+        Check.broken("18446744073709551617 0 0 * * ?", 0);
+        Check.broken("100x 0 0 * * ?", 0);
+        Check.broken("1-60 0 0 * * ?", 2);
+        Check.broken("-1 0 0 * * ?", 0);
+        Check.broken("+1 0 0 * * ?", 0);
+        Check.broken("1,61 0 0 * * ?", 2);
+        Check.broken("*/0 * * * * ?", 2);
+        Check.broken("*/100 * * * * ?", 2);
+        Check.broken("1-2/4294967297 * * * * ?", 4);
+        Check.broken("* * * * * ? 2000-1999", 17);
+        Check.broken("* * * * * ? 2000-1999/0", 17);
+        Check.broken("* * * * * ? 2000-1999x", 17);
+        Check.broken("* * * * * ? 2001,2299-2298", 22);
     }
 
     private static void brokenNames() {
-        broken("0 0 0 * FOO ?", 8);
-        broken("0 0 0 * jan ?", 8);
-        broken("0 0 0 * JAn ?", 8);
-        broken("0 0 0 * JA", 8);
-        broken("0 0 0 * J ?", 8);
-        broken("0 0 0 * ANF ?", 8);
-        broken("0 0 0 * JANU ?", 11);
-        broken("0 0 0 * JAN1 ?", 11);
-        broken("0 0 0 * 1JAN ?", 9);
-        broken("0 0 0 * JAN-FEV ?", 12);
-        broken("0 0 0 * JAN,MON ?", 12);
-        broken("0 0 0 ? * MO", 10);
-        broken("0 0 0 ? * MONDAY", 13);
-        broken("0 0 0 ? * JAN", 10);
-        broken("0 0 0 ? * MON-", 14);
-        broken("JAN * * * * ?", 0);
-        broken("0 0 0 MON * ?", 6);
+        Check.broken("0 0 0 * FOO ?", 8);
+        Check.broken("0 0 0 * jan ?", 8);
+        Check.broken("0 0 0 * JAn ?", 8);
+        Check.broken("0 0 0 * JA", 8);
+        Check.broken("0 0 0 * J ?", 8);
+        Check.broken("0 0 0 * ANF ?", 8);
+        Check.broken("0 0 0 * JANU ?", 11);
+        Check.broken("0 0 0 * JAN1 ?", 11);
+        Check.broken("0 0 0 * 1JAN ?", 9);
+        Check.broken("0 0 0 * JAN-FEV ?", 12);
+        Check.broken("0 0 0 * JAN,MON ?", 12);
+        Check.broken("0 0 0 ? * MO", 10);
+        Check.broken("0 0 0 ? * MONDAY", 13);
+        Check.broken("0 0 0 ? * JAN", 10);
+        Check.broken("0 0 0 ? * MON-", 14);
+        Check.broken("JAN * * * * ?", 0);
+        Check.broken("0 0 0 MON * ?", 6);
     }
 
     private static void brokenItems() {
-        broken("1,2, * * * * ?", 4);
-        broken(",1 * * * * ?", 0);
-        broken("1,,2 * * * * ?", 2);
-        broken("** * * * * ?", 1);
-        broken("*5 * * * * ?", 1);
-        broken("*-5 * * * * ?", 1);
-        broken("5* * * * * ?", 1);
-        broken("5-* * * * * ?", 2);
-        broken("5-", 2);
-        broken("5/", 2);
-        broken("5/* * * * * ?", 2);
-        broken("/5 * * * * ?", 0);
-        broken("1-2-3 * * * * ?", 3);
-        broken("1/2/3 * * * * ?", 3);
-        broken("1/2-3 * * * * ?", 3);
-        broken("1 -2 * * * ?", 2);
-        broken("*/2/2 * * * * ?", 3);
-        broken("5W * * * * ?", 1);
-        broken("5#1 * * * * ?", 1);
-        broken("0 0 0 * 5L ?", 9);
+        Check.broken("1,2, * * * * ?", 4);
+        Check.broken(",1 * * * * ?", 0);
+        Check.broken("1,,2 * * * * ?", 2);
+        Check.broken("** * * * * ?", 1);
+        Check.broken("*5 * * * * ?", 1);
+        Check.broken("*-5 * * * * ?", 1);
+        Check.broken("5* * * * * ?", 1);
+        Check.broken("5-* * * * * ?", 2);
+        Check.broken("5-", 2);
+        Check.broken("5/", 2);
+        Check.broken("5/* * * * * ?", 2);
+        Check.broken("/5 * * * * ?", 0);
+        Check.broken("1-2-3 * * * * ?", 3);
+        Check.broken("1/2/3 * * * * ?", 3);
+        Check.broken("1/2-3 * * * * ?", 3);
+        Check.broken("1 -2 * * * ?", 2);
+        Check.broken("*/2/2 * * * * ?", 3);
+        Check.broken("5W * * * * ?", 1);
+        Check.broken("5#1 * * * * ?", 1);
+        Check.broken("0 0 0 * 5L ?", 9);
     }
 
     private static void brokenDays() {
@@ -210,16 +198,16 @@ public final class CronTest {
     }
 
     private static void brokenWeekdays() {
-        broken("0 0 0 * * *", 10);
-        broken("0 0 0 ? * ?", 10);
-        broken("0 0 0 1 * MON", 10);
-        broken("0 0 0 L * L", 10);
-        broken("0 0 0 1W   *   FRIL", 15);
-        broken("0 0 0 * * ?,1", 11);
-        broken("0 0 0 * * ??", 11);
-        broken("0 0 0 * * ?L", 11);
-        broken("0 0 0 * * 8", 10);
-        broken("0 0 0 ? * ", 10);
+        Check.broken("0 0 0 * * *", 10);
+        Check.broken("0 0 0 ? * ?", 10);
+        Check.broken("0 0 0 1 * MON", 10);
+        Check.broken("0 0 0 L * L", 10);
+        Check.broken("0 0 0 1W   *   FRIL", 15);
+        Check.broken("0 0 0 * * ?,1", 11);
+        Check.broken("0 0 0 * * ??", 11);
+        Check.broken("0 0 0 * * ?L", 11);
+        Check.broken("0 0 0 * * 8", 10);
+        Check.broken("0 0 0 ? * ", 10);
         brokenWeekday("1,?", 2);
         brokenWeekday("LW", 1);
         brokenWeekday("L-1", 1);
@@ -261,7 +249,7 @@ public final class CronTest {
         Check.due("broken late", "throws." + Check.UOE, () -> Check.tell(finder, "1 1 1 LW 4 ? 1999 "));
         Check.due("place", 17, finder::place);
         Check.due("the cron before stays", "2000-03-17 12:00:00", () -> Check.when(finder.next(0)));
-        Check.due("broken early", "throws." + Check.UOE, () -> Check.tell(finder, ""));
+        Check.throwsDue("broken early", Check.UOE, () -> Check.read(finder));
         Check.due("place again", 0, finder::place);
         Check.due("it stays still", "2002-03-15 12:00:00", () -> Check.when(finder.later(0, 2)));
         Check.due("a new one", "ok", () -> Check.tell(finder, "1 1 1 LW 4 ? 1999"));
@@ -319,7 +307,7 @@ public final class CronTest {
         CronFinder finder = new CronFinder();
         Check.type(finder, text);
         finder.end(length);
-        Check.due("cron '" + text + "' cut off", "throws." + Check.UOE, () -> Check.tell(finder, ""));
+        Check.due("cron '" + text + "' cut off", "throws." + Check.UOE, () -> Check.read(finder));
         Check.due("place of '" + text + "' cut off", place, finder::place);
     }
 }

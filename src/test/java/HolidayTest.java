@@ -1,9 +1,15 @@
+import java.util.Random;
+import java.util.TreeSet;
+
 /** Promise 5, and what holidays mean for the others. */
 public final class HolidayTest {
     public static void main(String[] args) {
         refusesWrongDays();
         counts();
         refusesTooMany();
+        comeAndGo();
+        fullAndOneLess();
+        firstAndLastDay();
         leavesDaysOut();
         staysOverCrons();
         doesNotMoveWorkdays();
@@ -51,6 +57,65 @@ public final class HolidayTest {
         Check.due("one less", 199, () -> finder.holiday(100, false));
         Check.due("it fires again", 100 * 86400L, () -> finder.next(0));
         Check.due("one more", 200, () -> finder.holiday(500, true));
+    }
+
+    /** "That DAY is a HOLIDAY, or not any more. Answers how many there are", in every order. */
+    private static void comeAndGo() {
+        Random random = new Random(5);
+        for (int objects = 0; objects < 40; objects++) {
+            CronFinder finder = Check.finder("0 0 0 * * ?");
+            TreeSet<Integer> model = new TreeSet<>();
+            for (int k = 0; k < 220; k++) {
+                int day = random.nextInt(objects + 2);
+                boolean yes = random.nextBoolean();
+                if (yes) {
+                    model.add(day);
+                } else {
+                    model.remove(day);
+                }
+                Check.due("holiday", model.size(), () -> finder.holiday(day, yes));
+                Check.due("is " + day, !yes, () -> finder.is(day * 86400L));
+            }
+            for (int day = 0; day < objects + 2; day++) {
+                long t = day * 86400L;
+                Check.due("is " + t, !model.contains(day), () -> finder.is(t));
+            }
+        }
+    }
+
+    /** "if there would be more than 200": 200 stand, and one that goes makes room for one. */
+    private static void fullAndOneLess() {
+        CronFinder finder = Check.finder("0 0 0 * * ?");
+        for (int day = 0; day < 199; day++) {
+            finder.holiday(120529 - day, true);
+        }
+        Check.due("the 200th", 200, () -> finder.holiday(120529 - 199, true));
+        Check.throwsDue("the 201st", Check.IOOBE, () -> finder.holiday(0, true));
+        Check.due("all are left out", (120529 - 200) * 86400L, () -> finder.last(Check.LAST_TIME));
+        for (int day = 120529; day > 120329; day -= 40) {
+            int gone = day;
+            Check.due("again " + day, 200, () -> finder.holiday(gone, true));
+            Check.due("one goes", 199, () -> finder.holiday(gone, false));
+            Check.due("it goes once", 199, () -> finder.holiday(gone, false));
+            Check.due("one comes", 200, () -> finder.holiday(gone - 1000, true));
+            Check.throwsDue("it does not come again", Check.IOOBE, () -> finder.holiday(gone, true));
+            Check.due("it fires", gone * 86400L, () -> finder.next(gone * 86400L - 1));
+        }
+    }
+
+    /** "day 0 .. 120529" */
+    private static void firstAndLastDay() {
+        CronFinder finder = Check.finder("0 0 0 * * ?");
+        Check.due("first", 1, () -> finder.holiday(0, true));
+        Check.due("is first", false, () -> finder.is(0));
+        Check.due("is second", true, () -> finder.is(86400));
+        Check.due("last", 2, () -> finder.holiday(120529, true));
+        Check.due("is last", false, () -> finder.is(120529 * 86400L));
+        Check.due("is last but one", true, () -> finder.is(120528 * 86400L));
+        Check.due("first, not any more", 1, () -> finder.holiday(0, false));
+        Check.due("last, not any more", 0, () -> finder.holiday(120529, false));
+        Check.due("is first again", true, () -> finder.is(0));
+        Check.due("is last again", true, () -> finder.is(120529 * 86400L));
     }
 
     private static void leavesDaysOut() {
