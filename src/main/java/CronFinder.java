@@ -291,17 +291,14 @@ public final class CronFinder {
 
         /** How many of the days are below the given one. */
         private int indexOf(int day) {
-            int low = 0;
-            int high = count;
-            while (low < high) {
-                int middle = (low + high) / 2;
-                if (days[middle] < day) {
-                    low = middle + 1;
-                } else {
-                    high = middle;
+            int below = 0;
+            for (int step = Integer.highestOneBit(days.length); step > 0; step /= 2) {
+                int index = below + step;
+                if (index <= count && days[index - 1] < day) {
+                    below = index;
                 }
             }
-            return low;
+            return below;
         }
     }
 

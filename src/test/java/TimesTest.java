@@ -10,6 +10,7 @@ public final class TimesTest {
         laterIsNextAgain();
         wrongCounts();
         isJustThen();
+        edgesOfMinutesAndHours();
         edgesOfDaysMonthsYears();
         holidaysAtTheEdges();
         without();
@@ -125,6 +126,36 @@ public final class TimesTest {
         Check.due("is, day before", false, () -> weekly.is(Check.time("2000-06-14 12:30:30")));
         Check.due("is, day behind", false, () -> weekly.is(Check.time("2000-06-16 12:30:30")));
         Check.due("is, other month", false, () -> weekly.is(Check.time("2000-07-06 12:30:30")));
+    }
+
+    /** A cron that fires once a minute, an hour or a day, seen from both sides of each edge. */
+    private static void edgesOfMinutesAndHours() {
+        int[] offsets = {0, 1, 59, 60, 119, 3540, 3599, 3600, 3660, 7199, 82800, 86339, 86340, 86398, 86399};
+        for (int offset : offsets) {
+            int second = offset % 60;
+            int minute = offset / 60 % 60;
+            int hour = offset / 3600;
+            periodic(second + " * * * * ?", 60, offset);
+            periodic(second + " " + minute + " * * * ?", 3600, offset);
+            periodic(second + " " + minute + " " + hour + " * * ?", 86400, offset);
+        }
+    }
+
+    private static void periodic(String text, int period, int offset) {
+        CronFinder finder = Check.finder(text);
+        long[] starts = {60, 3600, 7200, 86400, Check.time("2000-03-01"), Check.time("2001-01-01")};
+        for (long start : starts) {
+            for (long t = start - 61; t <= start + 61; t += 60) {
+                for (long at = Math.max(0, t - 1); at <= t + 1; at++) {
+                    long when = at;
+                    long since = Math.floorMod(when - offset, (long) period);
+                    String what = "'" + text + "' at " + when;
+                    Check.due(what + " next", when - since + period, () -> finder.next(when));
+                    Check.due(what + " last", when < since ? -1L : when - since, () -> finder.last(when));
+                    Check.due(what + " is", since == 0, () -> finder.is(when));
+                }
+            }
+        }
     }
 
     private static void edgesOfDaysMonthsYears() {
